@@ -47,7 +47,7 @@ public final class HandLine {
     private final Reader reader = new Reader(tape);
     private final Crew draft = new Crew();
     private final Crew crew = new Crew();
-    private final Crew[] images = new Crew[IMAGES];
+    private final Crew[] images = {new Crew(), new Crew(), new Crew()};
     private final boolean[] imaged = new boolean[IMAGES];
     private final Slots slots = new Slots();
     private final Line line = new Line();
@@ -58,9 +58,6 @@ public final class HandLine {
     private boolean ordersStand = false;
 
     public HandLine() {
-        for (int k = 0; k < IMAGES; k++) {
-            images[k] = new Crew();
-        }
     }
 
     // ---- the TAPE and the BRIGADE ----
@@ -514,7 +511,8 @@ public final class HandLine {
         if (refusal != 0) {
             return refusal;
         }
-        return fitting(slot).fits;
+        listed().choose(slots, slot);
+        return orders.fits;
     }
 
     public int may(int slot, int hand) {
@@ -522,12 +520,20 @@ public final class HandLine {
             return NO_SUCH;
         }
         int refusal = seenRefusal(slot);
-        return refusal != 0 ? refusal : fitting(slot).placesOf(hand, crew.number[HANDS]);
+        if (refusal != 0) {
+            return refusal;
+        }
+        listed().choose(slots, slot);
+        return orders.placesOf(hand, crew.number[HANDS]);
     }
 
     public int ask(int slot) {
         int refusal = seenRefusal(slot);
-        return refusal != 0 ? refusal : fitting(slot).secondToAsk(crew.number[SECONDS]);
+        if (refusal != 0) {
+            return refusal;
+        }
+        listed().choose(slots, slot);
+        return orders.secondToAsk(crew.number[SECONDS]);
     }
 
     public int leaves(int slot) {
@@ -535,7 +541,8 @@ public final class HandLine {
         if (refusal != 0) {
             return refusal;
         }
-        int second = fitting(slot).secondToAsk(crew.number[SECONDS]);
+        listed().choose(slots, slot);
+        int second = orders.secondToAsk(crew.number[SECONDS]);
         return second == NONE ? orders.fits : orders.worstBy(second);
     }
 
@@ -823,11 +830,6 @@ public final class HandLine {
         return orders;
     }
 
-    private Orders fitting(int slot) {
-        listed().choose(slots, slot);
-        return orders;
-    }
-
     private int atSecond(int[] values, int second) {
         return crew.hasSecond(second) ? values[second] : NO_SUCH;
     }
@@ -1030,7 +1032,8 @@ public final class HandLine {
         static final int NUMBER = 1;
         static final int SIGN = 2;
         static final int NO_TOKEN = 3;
-        static final int THE_END = 4;
+        static final int BLANK = 4;
+        static final int THE_END = 5;
         static final int TOO_GREAT = 1_000_000;
 
         final Tape tape;
@@ -1076,11 +1079,16 @@ public final class HandLine {
 
         private void readFirst(Crew draft) {
             takeWord("brigade");
-            draft.number[SECONDS] = takeNumberBehind("seconds", 1, MOST_SECONDS);
-            draft.number[BUCKETS] = takeNumberBehind("buckets", 1, MOST_BUCKETS);
-            draft.number[SIZE] = takeNumberBehind("size", 1, MOST_SIZE);
-            draft.number[BACK] = takeNumberBehind("back", 0, 20);
-            draft.number[ODDS] = takeNumberBehind("odds", 0, 10);
+            takeWord("seconds");
+            draft.number[SECONDS] = takeNumber(1, MOST_SECONDS, NONE);
+            takeWord("buckets");
+            draft.number[BUCKETS] = takeNumber(1, MOST_BUCKETS, NONE);
+            takeWord("size");
+            draft.number[SIZE] = takeNumber(1, MOST_SIZE, NONE);
+            takeWord("back");
+            draft.number[BACK] = takeNumber(0, 20, NONE);
+            takeWord("odds");
+            draft.number[ODDS] = takeNumber(0, 10, NONE);
         }
 
         private void readHand(Crew draft) {
@@ -1088,8 +1096,10 @@ public final class HandLine {
                 refuse(3);
             }
             takeWord("hand");
-            int pace = takeNumberBehind("pace", 1, MOST_PACE);
-            int spills = takeNumberBehind("spills", 0, 9);
+            takeWord("pace");
+            int pace = takeNumber(1, MOST_PACE, NONE);
+            takeWord("spills");
+            int spills = takeNumber(0, 9, NONE);
             if (fault == 0) {
                 draft.addHand(pace, spills);
             }
@@ -1110,8 +1120,10 @@ public final class HandLine {
 
         private void readFire(Crew draft) {
             takeWord("fire");
-            draft.number[HEAT] = takeNumberBehind("heat", 1, MOST_HEAT);
-            draft.number[GROWS] = takeNumberBehind("grows", 0, 9);
+            takeWord("heat");
+            draft.number[HEAT] = takeNumber(1, MOST_HEAT, NONE);
+            takeWord("grows");
+            draft.number[GROWS] = takeNumber(0, 9, NONE);
         }
 
         private void refuse(int what) {
@@ -1135,11 +1147,6 @@ public final class HandLine {
             } else {
                 refuse(1);
             }
-        }
-
-        private int takeNumberBehind(String word, int least, int most) {
-            takeWord(word);
-            return takeNumber(least, most, NONE);
         }
 
         private int takeNumber(int least, int most, int unlike) {
@@ -1170,48 +1177,38 @@ public final class HandLine {
             if (fault != 0) {
                 return;
             }
-            while (at < tape.length && isBlank(tape.byteAt(at))) {
+            while (at < tape.length && kindOf(tape.byteAt(at)) == BLANK) {
                 at++;
             }
             start = at;
             if (at >= tape.length) {
                 kind = THE_END;
-            } else if (isLetter(tape.byteAt(at))) {
-                kind = WORD;
-                skipLetters();
-            } else if (isDigit(tape.byteAt(at))) {
-                kind = NUMBER;
-                skipDigits();
-            } else {
-                kind = tape.byteAt(at) == ';' ? SIGN : NO_TOKEN;
-                at++;
+                return;
             }
-        }
-
-        private void skipLetters() {
-            while (at < tape.length && isLetter(tape.byteAt(at))) {
-                at++;
-            }
-        }
-
-        private void skipDigits() {
+            kind = kindOf(tape.byteAt(at));
             value = 0;
-            while (at < tape.length && isDigit(tape.byteAt(at))) {
+            if (kind != WORD && kind != NUMBER) {
+                at++;
+                return;
+            }
+            while (at < tape.length && kindOf(tape.byteAt(at)) == kind) {
+                // Of a word this is never asked; a number beyond all bounds must not wrap round.
                 value = Math.min(TOO_GREAT, value * 10 + tape.byteAt(at) - '0');
                 at++;
             }
         }
 
-        private static boolean isBlank(int sign) {
-            return sign == 32 || sign == 10;
-        }
-
-        private static boolean isLetter(int sign) {
-            return sign >= 'a' && sign <= 'z';
-        }
-
-        private static boolean isDigit(int sign) {
-            return sign >= '0' && sign <= '9';
+        private static int kindOf(int sign) {
+            if (sign >= 'a' && sign <= 'z') {
+                return WORD;
+            }
+            if (sign >= '0' && sign <= '9') {
+                return NUMBER;
+            }
+            if (sign == 32 || sign == 10) {
+                return BLANK;
+            }
+            return sign == ';' ? SIGN : NO_TOKEN;
         }
     }
 
@@ -1425,7 +1422,7 @@ public final class HandLine {
         }
 
         boolean isThrow(int passed) {
-            return places > 0 && hasBit(passed, places - 1);
+            return places > 0 && (passed >> places - 1 & 1) != 0;
         }
 
         /** One SECOND: the PLACES at which a bucket was given on or thrown, as bits. */
@@ -1435,7 +1432,7 @@ public final class HandLine {
             }
             int passed = 0;
             for (int at = places - 1; at >= 0; at--) {
-                if (heldFor[at] == 0 || isResting(at, second)) {
+                if (heldFor[at] == 0 || hasBit(rests[at], second)) {
                     continue;
                 }
                 if (heldFor[at] < pace[at]) {
@@ -1446,7 +1443,10 @@ public final class HandLine {
                     passed |= 1 << at;
                 }
             }
-            takeAtRiver(second);
+            if (places > 0 && atRiver > 0 && heldFor[0] == 0 && !hasBit(rests[0], second)) {
+                atRiver--;
+                heldFor[0] = 1;
+            }
             onRoad = onRoad << 1 & (2 << backTime) - 1;
             if (isThrow(passed)) {
                 onRoad |= 1;
@@ -1474,26 +1474,15 @@ public final class HandLine {
             return bits;
         }
 
-        private boolean isResting(int at, int second) {
-            return hasBit(rests[at], second);
-        }
-
         private boolean nextIsFree(int at, int second) {
             int next = at + 1;
-            return next >= places || heldFor[next] == 0 && !isResting(next, second);
+            return next >= places || heldFor[next] == 0 && (rests[next] >>> second & 1L) == 0;
         }
 
         private void passOn(int at) {
             heldFor[at] = 0;
             if (at + 1 < places) {
                 heldFor[at + 1] = 1;
-            }
-        }
-
-        private void takeAtRiver(int second) {
-            if (places > 0 && atRiver > 0 && heldFor[0] == 0 && !isResting(0, second)) {
-                atRiver--;
-                heldFor[0] = 1;
             }
         }
     }
