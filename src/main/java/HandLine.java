@@ -55,7 +55,8 @@ public final class HandLine {
     private final Orders orders = new Orders();
     private final Circle circle = new Circle();
     private boolean taleStands = false;
-    private boolean ordersStand = false;
+    private boolean ordersListed = false;
+    private boolean ordersPlayed = false;
 
     public HandLine() {
     }
@@ -88,7 +89,7 @@ public final class HandLine {
         }
         crew.copyFrom(draft);
         tape.length = 0;
-        forget();
+        forgetAll();
         return crew.number[LINES];
     }
 
@@ -469,7 +470,7 @@ public final class HandLine {
         if (!crew.stands()) {
             return NO_SUCH;
         }
-        int order = listed().bestOrder(tale.poured);
+        int order = played().bestOrder(tale.poured);
         return order == NONE ? NONE : orders.throwsOf(order) * tale.poured;
     }
 
@@ -477,7 +478,7 @@ public final class HandLine {
         if (!crew.hasHand(i)) {
             return NO_SUCH;
         }
-        int order = listed().bestOrder(tale.poured);
+        int order = played().bestOrder(tale.poured);
         return order == NONE ? NONE : orders.handAt(order, i);
     }
 
@@ -485,7 +486,7 @@ public final class HandLine {
         if (!crew.stands()) {
             return NO_SUCH;
         }
-        int number = listed().number;
+        int number = played().number;
         int first = NONE;
         for (int order = 0; order < number; order++) {
             int second = outBy(orders.throwBits[order], tale.poured);
@@ -511,7 +512,7 @@ public final class HandLine {
         if (refusal != 0) {
             return refusal;
         }
-        listed().choose(slots, slot);
+        played().choose(slots, slot);
         return orders.fits;
     }
 
@@ -523,7 +524,7 @@ public final class HandLine {
         if (refusal != 0) {
             return refusal;
         }
-        listed().choose(slots, slot);
+        played().choose(slots, slot);
         return orders.placesOf(hand, crew.number[HANDS]);
     }
 
@@ -532,7 +533,7 @@ public final class HandLine {
         if (refusal != 0) {
             return refusal;
         }
-        listed().choose(slots, slot);
+        played().choose(slots, slot);
         return orders.secondToAsk(crew.number[SECONDS]);
     }
 
@@ -541,7 +542,7 @@ public final class HandLine {
         if (refusal != 0) {
             return refusal;
         }
-        listed().choose(slots, slot);
+        played().choose(slots, slot);
         int second = orders.secondToAsk(crew.number[SECONDS]);
         return second == NONE ? orders.fits : orders.worstBy(second);
     }
@@ -748,7 +749,7 @@ public final class HandLine {
             return NOTHING_THERE;
         }
         crew.copyFrom(images[k]);
-        forget();
+        forgetAll();
         return 0;
     }
 
@@ -806,10 +807,16 @@ public final class HandLine {
         return (bits >>> i & 1L) != 0;
     }
 
-    /** All that was worked out of the BRIGADE as it was is stale now. */
+    /** An act or another size: what was worked out of the line as it was is stale. */
     private void forget() {
         taleStands = false;
-        ordersStand = false;
+        ordersPlayed = false;
+    }
+
+    /** Another BRIGADE: its ORDERS are others, too. */
+    private void forgetAll() {
+        forget();
+        ordersListed = false;
     }
 
     private Tale told() {
@@ -822,10 +829,19 @@ public final class HandLine {
     }
 
     private Orders listed() {
+        if (!ordersListed) {
+            orders.list(crew);
+            ordersListed = true;
+        }
+        return orders;
+    }
+
+    private Orders played() {
+        listed();
         told();
-        if (!ordersStand) {
-            orders.list(crew, line);
-            ordersStand = true;
+        if (!ordersPlayed) {
+            orders.playAll(crew, line);
+            ordersPlayed = true;
         }
         return orders;
     }
@@ -1634,7 +1650,7 @@ public final class HandLine {
         int letGo = 0;
         int fits = 0;
 
-        void list(Crew crew, Line line) {
+        void list(Crew crew) {
             int hands = crew.number[HANDS];
             for (int i = 0; i < MOST_HANDS; i++) {
                 rowNow[i] = i;
@@ -1646,9 +1662,19 @@ public final class HandLine {
                 int broken = brokenPairs(crew, hands);
                 letGo = fewer(letGo, broken);
                 if (broken == 0) {
-                    addOrder(crew, line, hands);
+                    addOrder(hands);
                 }
                 more = goToNextRow(hands);
+            }
+        }
+
+        void playAll(Crew crew, Line line) {
+            for (int order = 0; order < number; order++) {
+                line.clearFor(crew);
+                for (int at = 0; at < crew.number[HANDS]; at++) {
+                    line.join(crew, handAt(order, at));
+                }
+                throwBits[order] = line.play(crew.number[SECONDS], 0L);
             }
         }
 
@@ -1759,16 +1785,13 @@ public final class HandLine {
             return bits;
         }
 
-        private void addOrder(Crew crew, Line line, int hands) {
+        private void addOrder(int hands) {
             int packed = 0;
-            line.clearFor(crew);
             for (int at = 0; at < hands; at++) {
                 packed |= rowNow[at] << 3 * at;
-                line.join(crew, rowNow[at]);
             }
             if (number < MOST_ORDERS) {
                 rows[number] = packed;
-                throwBits[number] = line.play(crew.number[SECONDS], 0L);
                 number++;
             }
         }

@@ -165,6 +165,27 @@ public final class ActsTest {
             CHECK.due("back", x.back(k), -2);
         }
         tapeStays();
+        actsComeBack();
+    }
+
+    /** What was worked out ahead of back() is stale, and acts that were overwritten are there again. */
+    private static void actsComeBack() {
+        HandLine x = Check.told(THREE);
+        x.paces(1, 1);
+        x.rest(0, 1, 2);
+        x.image(0);
+        CHECK.dueRow("when", x::when, 6, 8, -1);
+        x.anew();
+        x.rest(2, 5, 3);
+        x.paces(0, 6);
+        CHECK.due("when(0)", x.when(0), 11);
+        CHECK.due("back(0)", x.back(0), 0);
+        CHECK.dueRow("when", x::when, 6, 8, -1);
+        x.paces(2, 6);
+        CHECK.due("when(0)", x.when(0), 10);
+        CHECK.due("undo()", x.undo(), 2);
+        CHECK.dueRow("when", x::when, 6, 8, -1);
+        CHECK.dueRow("pace", h -> x.hand(h, 0), 1, 1, 2);
     }
 
     private static void tapeStays() {

@@ -61,7 +61,11 @@ public final class AgainstNaiveTest {
                 see();
             } else {
                 Method m = methods[random.nextInt(methods.length)];
-                call(m.getName(), arguments(m));
+                // Without a BRIGADE most answers are alike, so it goes seldom.
+                boolean seldom = m.getName().equals("brigade") || m.getName().equals("feed");
+                if (!seldom || random.nextInt(6) == 0) {
+                    call(m.getName(), arguments(m));
+                }
             }
         }
     }

@@ -46,6 +46,8 @@ public final class OrdersTest {
         CHECK.due("let(), the fewest, not the least", y.let(), 4);
         HandLine z = hands(2, "apart 0 1;together 0 1;");
         CHECK.due("let(), the least of two", z.let(), 1);
+        HandLine v = hands(3, "together 0 2;together 2 0;apart 0 2;");
+        CHECK.due("let(), the fewest, not the least", v.let(), 4);
         HandLine w = hands(2, "apart 0 1;apart 0 1;apart 0 1;apart 0 1;apart 0 1;");
         CHECK.due("lets() of all", w.lets(), 5);
         CHECK.due("let() of all", w.let(), 31);
@@ -70,6 +72,10 @@ public final class OrdersTest {
         CHECK.due("soonest()", x.soonest(), 2);
         CHECK.due("change()", x.change(), 1);
         CHECK.due("the order told stays", x.hand(0, 1), 1);
+        x.anew();
+        x.rest(1, 0, 1);
+        CHECK.due("soonest(), by the order told alone", x.soonest(), 2);
+        CHECK.due("change()", x.change(), -1);
         HandLine y = hands(4, "together 0 3;apart 0 1;");
         y.rest(0, 0, 1);
         y.rest(1, 0, 1);
@@ -117,9 +123,13 @@ public final class OrdersTest {
         CHECK.due("leaves(0)", x.leaves(0), 1);
         write(x, 1, 1, 2, 1);
         CHECK.due("fits(1)", x.fits(1), 1);
+        CHECK.due("may(0, 0)", x.may(0, 0), 3);
         CHECK.due("may(1, 0)", x.may(1, 0), 2);
+        CHECK.due("may(0, 1)", x.may(0, 1), 3);
         CHECK.due("may(1, 1)", x.may(1, 1), 1);
+        CHECK.due("ask(0)", x.ask(0), 2);
         CHECK.due("ask(1)", x.ask(1), -1);
+        CHECK.due("leaves(0)", x.leaves(0), 1);
         CHECK.due("leaves(1)", x.leaves(1), 1);
         write(x, 2, 2, 2, 0, 4, 1);
         CHECK.due("fits(2)", x.fits(2), 1);
@@ -155,7 +165,12 @@ public final class OrdersTest {
         CHECK.due("fits(0) of 6", x.fits(0), 4);
         write(x, 0, 0);
         CHECK.due("ask(0), the first of several", x.ask(0), 4);
+        write(x, 1, 0, 4, 1);
+        CHECK.due("fits(1)", x.fits(1), 4);
         CHECK.due("leaves(0)", x.leaves(0), 8);
+        CHECK.due("leaves(1)", x.leaves(1), 4);
+        CHECK.due("ask(0)", x.ask(0), 4);
+        CHECK.due("ask(1)", x.ask(1), -1);
         write(x, 0, 0, 4, 0);
         CHECK.due("ask(0)", x.ask(0), 5);
         CHECK.due("leaves(0)", x.leaves(0), 4);

@@ -75,6 +75,8 @@ public final class OtherwiseTest {
                 + "fire heat 29 grows 0;");
         CHECK.due("size() 30", x.size(), 30);
         CHECK.due("the size told stays", x.count(2), 5);
+        x.brings(0);
+        CHECK.due("size() behind another question", x.size(), 30);
         HandLine y = Check.told("brigade seconds 4 buckets 1 size 5 back 1 odds 0;hand pace 1 spills 1;");
         CHECK.due("size() without fire", y.size(), 1);
     }

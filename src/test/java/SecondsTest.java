@@ -154,6 +154,16 @@ public final class SecondsTest {
                 + "hand pace 1 spills 0;hand pace 1 spills 0;");
         CHECK.due("lazy(), the first of two", ties.lazy(), 1);
         CHECK.due("starts(2)", ties.starts(2), -1);
+        HandLine last = Check.told("brigade seconds 2 buckets 8 size 3 back 0 odds 0;hand pace 1 spills 0;"
+                + "hand pace 2 spills 0;");
+        CHECK.due("until(0) at first", last.until(0), 0);
+        CHECK.due("crowded(), the last SECOND", last.crowded(), 1);
+        HandLine once = Check.told("brigade seconds 3 buckets 8 size 3 back 0 odds 0;hand pace 1 spills 0;"
+                + "hand pace 2 spills 0;");
+        CHECK.due("stays(0), once", once.stays(0), 1);
+        CHECK.due("queue(), once", once.queue(), 0);
+        HandLine water = Check.told("brigade seconds 3 buckets 8 size 3 back 0 odds 0;hand pace 1 spills 0;");
+        CHECK.due("until(4) at first", water.until(4), 2);
         HandLine queues = Check.told("brigade seconds 6 buckets 8 size 3 back 0 odds 0;hand pace 1 spills 0;"
                 + "hand pace 1 spills 0;hand pace 6 spills 0;");
         CHECK.dueRow("waits", queues::waits, 0, 0, 0, 3, 3, 3);

@@ -50,6 +50,9 @@ public final class SlotsTest {
         x.row(0, 0, 2);
         x.write(0, 0, 1);
         CHECK.due("fits(0), all 0 anew", x.fits(0), 0);
+        x.write(0, 0, 5);
+        x.row(0, 0, 2);
+        CHECK.due("fits(0), all 0 anew", x.fits(0), 1);
         x.row(1, 0, 0);
         CHECK.due("write(1, 0, 0)", x.write(1, 0, 0), -7);
     }

@@ -43,7 +43,10 @@ public final class TextTest {
         CHECK.due("feed with 481", x.feed(0, 0, 0, 0, 0), -1);
         CHECK.due("end(480)", x.end(480), 480);
         CHECK.due("feed with 480", x.feed(0, 0, 0, 0, 0), 500);
+        CHECK.due("end(500) of 500", x.end(500), 500);
+        CHECK.due("count(11) still", x.count(11), 500);
         CHECK.due("end(0)", x.end(0), 0);
+        CHECK.due("end(0) of 0", x.end(0), 0);
         CHECK.due("end(1)", x.end(1), -1);
         // "brigade seconds 4 bu" by its numbers: the highest byte comes first.
         CHECK.due("feed", x.feed(0x62726967, 0x61646520, 0x7365636f, 0x6e647320, 0x34206275), 20);
@@ -136,6 +139,8 @@ public final class TextTest {
         faulty("brigade seconds ;", 1, 16);
         faulty("brigade buckets 4", 1, 8);
         faulty("Brigade", 1, 0);
+        faulty("frigade seconds 4", 1, 0);
+        faulty("brigadx seconds 4", 1, 0);
         faulty("brigade\tseconds", 1, 7);
         faulty("brigade\rseconds", 1, 7);
         faulty("brigade seconds -4", 1, 16);
