@@ -5,6 +5,7 @@ public final class OrdersTest {
 
     public static void main(String[] args) {
         numbers();
+        otherOrders();
         letGo();
         bestByRests();
         spills();
@@ -32,6 +33,20 @@ public final class OrdersTest {
         CHECK.due("orders() of six", hands(6, "together 0 1;together 1 2;together 2 3;together 3 4;together 4 5;")
                 .orders(), 2);
         CHECK.due("orders() of a pair of six", hands(6, "together 4 2;").orders(), 240);
+    }
+
+    /** Another BRIGADE in one object, and back: its ORDERS are others. */
+    private static void otherOrders() {
+        HandLine x = hands(3, "");
+        CHECK.due("orders()", x.orders(), 6);
+        x.image(0);
+        Check.feed(x, "brigade seconds 5 buckets 1 size 9 back 20 odds 0;" + HAND.repeat(4) + "together 0 2;");
+        CHECK.due("brigade()", x.brigade(), 6);
+        CHECK.due("orders() of another", x.orders(), 12);
+        CHECK.dueRow("place of another", x::place, 0, 2, 1, 3, -2);
+        CHECK.due("back(0)", x.back(0), 0);
+        CHECK.due("orders() of the first", x.orders(), 6);
+        CHECK.dueRow("place of the first", x::place, 0, 1, 2, -2);
     }
 
     private static void letGo() {
