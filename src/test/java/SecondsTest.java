@@ -10,6 +10,7 @@ public final class SecondsTest {
         resting();
         emptied();
         alone();
+        six();
         nobody();
         nothing();
         fires();
@@ -170,6 +171,26 @@ public final class SecondsTest {
         CHECK.due("queue(), the first of two", queues.queue(), 0);
         CHECK.due("full()", queues.full(), 3);
         CHECK.due("crowded()", queues.crowded(), 2);
+    }
+
+    private static void six() {
+        HandLine x = Check.told("brigade seconds 9 buckets 8 size 30 back 0 odds 0;"
+                + "hand pace 1 spills 1;".repeat(6));
+        CHECK.dueRow("when", x::when, 6, 7, 8, -1);
+        CHECK.dueRow("passes", x::passes, 8, 7, 6, 5, 4, 3, -2);
+        CHECK.dueRow("loses", x::loses, 8, 7, 6, 5, 4, 3, -2);
+        CHECK.due("spilt(8)", x.spilt(8), 33);
+        CHECK.due("water(8)", x.water(8), 72);
+        CHECK.dueRow("holds", h -> x.holds(h, 8), 30, 29, 28, 27, 26, 25, -2);
+        CHECK.due("full()", x.full(), 6);
+        CHECK.due("crowded()", x.crowded(), 5);
+        HandLine y = Check.told("brigade seconds 12 buckets 8 size 5 back 0 odds 0;"
+                + "hand pace 6 spills 0;".repeat(3));
+        CHECK.dueRow("starts, too late", y::starts, 0, 6, -1, -2);
+        HandLine z = Check.told("brigade seconds 30 buckets 1 size 5 back 20 odds 0;hand pace 6 spills 0;");
+        CHECK.due("until(5)", z.until(5), 6);
+        CHECK.due("until(6), too late", z.until(6), -1);
+        CHECK.due("when(1), too late", z.when(1), -1);
     }
 
     private static void nobody() {

@@ -48,8 +48,17 @@ public final class Check {
         x.end(bytes.length);
     }
 
+    /** An object that was used for a longer line ahead, of which nothing may be left. */
     public static HandLine told(String text) {
         HandLine x = new HandLine();
+        feed(x, "brigade seconds 60 buckets 8 size 30 back 0 odds 5;" + "hand pace 1 spills 0;".repeat(6)
+                + "together 0 1;apart 1 2;fire heat 999 grows 9;");
+        x.brigade();
+        x.rest(1, 0, 9);
+        x.paces(0, 2);
+        x.best();
+        x.settles();
+        x.share(0, 0);
         feed(x, text);
         int lines = x.brigade();
         if (lines < 0) {
