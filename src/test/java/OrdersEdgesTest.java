@@ -18,6 +18,7 @@ public final class OrdersEdgesTest {
         changeOfTheFirst();
         changeOfTheLast();
         changeIfMore();
+        changeOfAllTheyHave();
         letFewest();
         fitsOfRows();
         fitsOfBounds();
@@ -206,6 +207,35 @@ public final class OrdersEdgesTest {
         CHECK.due("change(), the one of use", x.change(), 2);
     }
 
+    /** Two who change PLACES take their paces, spills and rests with them, and each keeps his own. */
+    private static void changeOfAllTheyHave() {
+        // Thrown in 4, 7, .. in either order, but more often if both had the pace of the faster one.
+        HandLine paces = Check.told("brigade seconds 20 buckets 8 size 9 back 0 odds 0;hand pace 3 spills 0;"
+                + "hand pace 1 spills 0;");
+        CHECK.due("change() of paces", paces.change(), -1);
+        HandLine other = Check.told("brigade seconds 20 buckets 8 size 9 back 0 odds 0;hand pace 1 spills 0;"
+                + "hand pace 3 spills 0;");
+        CHECK.due("change() of paces", other.change(), -1);
+        // Nothing is left in the bucket in either order, but would be if both spilt as little as one of them.
+        HandLine spills = Check.told("brigade seconds 3 buckets 8 size 9 back 0 odds 0;hand pace 1 spills 1;"
+                + "hand pace 1 spills 8;");
+        spills.rest(0, 0, 1);
+        CHECK.due("change() of spills", spills.change(), -1);
+        HandLine more = Check.told("brigade seconds 3 buckets 8 size 9 back 0 odds 0;hand pace 1 spills 8;"
+                + "hand pace 1 spills 1;");
+        more.rest(0, 0, 1);
+        CHECK.due("change() of spills", more.change(), -1);
+        // Both rest, one in SECOND 0, one in 1: nobody may take or give in time in either order.
+        HandLine rests = hands(2, "");
+        rests.rest(0, 0, 1);
+        rests.rest(1, 1, 1);
+        CHECK.due("change() of rests", rests.change(), -1);
+        HandLine rest = hands(2, "");
+        rest.rest(0, 1, 1);
+        rest.rest(1, 0, 1);
+        CHECK.due("change() of rests", rest.change(), -1);
+    }
+
     private static void letFewest() {
         CHECK.due("lets() of none", hands(2, "").lets(), 0);
         CHECK.due("let() of none", hands(2, "").let(), 0);
@@ -282,6 +312,8 @@ public final class OrdersEdgesTest {
             put(x, 0, 3, numbers[0], numbers[1], 0, 99);
             CHECK.due("fits(0), none such ahead of what does not fit", x.fits(0), -2);
         }
+        put(x, 0, 3, 0, 99, 0, 0);
+        CHECK.due("fits(0) of 99, which is no SECOND", x.fits(0), 0);
         HandLine sixty = Check.told("brigade seconds 60 buckets 8 size 9 back 0 odds 0;" + HAND);
         put(sixty, 0, 0, 59, 59);
         CHECK.due("fits(0) of SECOND 59", sixty.fits(0), 1);
