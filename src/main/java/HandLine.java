@@ -43,8 +43,8 @@ public final class HandLine {
 
     private static final int[] FACTORIAL = {1, 1, 2, 6, 24, 120, 720};
 
-    private final Tape tape = new Tape();
-    private final Reader reader = new Reader(tape);
+    private final Reader reader = new Reader();
+    private final Tape tape = reader.tape;
     private final Crew draft = new Crew();
     private final Crew crew = new Crew();
     private final Crew[] images = {new Crew(), new Crew(), new Crew()};
@@ -1052,17 +1052,13 @@ public final class HandLine {
         static final int THE_END = 5;
         static final int TOO_GREAT = 1_000_000;
 
-        final Tape tape;
+        final Tape tape = new Tape();
         int fault = 0;
         int faultPlace = NONE;
         int kind = THE_END;
         int start = 0;
         int at = 0;
         int value = 0;
-
-        Reader(Tape tape) {
-            this.tape = tape;
-        }
 
         boolean readInto(Crew draft) {
             draft.clear();

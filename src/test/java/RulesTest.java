@@ -95,6 +95,10 @@ public final class RulesTest {
         for (Class<?> inside : HandLine.class.getDeclaredClasses()) {
             CHECK.due(inside + " static", Modifier.isStatic(inside.getModifiers()) ? 1 : 0, 1);
             CHECK.due(inside + " not public", Modifier.isPublic(inside.getModifiers()) ? 1 : 0, 0);
+            // Rule 12: an object that is being made hands out nothing of it, if nobody can be given anything.
+            for (Constructor<?> c : inside.getDeclaredConstructors()) {
+                CHECK.due(c + " is given nothing", c.getParameterCount(), 0);
+            }
             ofClass(inside, open);
         }
     }
